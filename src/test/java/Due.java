@@ -109,6 +109,10 @@ final class Due {
     return x;
   }
 
+  static int failed() {
+    return failed;
+  }
+
   /** Prints the count of checks; the exit code is 1 if one failed. */
   static void end(String name) {
     System.out.println(name + ": " + passed + " as due, " + failed + " not");
