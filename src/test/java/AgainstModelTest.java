@@ -2,8 +2,12 @@ import java.util.Random;
 
 /** Long runs of calls by lot: the program and the model must answer alike and stay in the same state. */
 public final class AgainstModelTest {
-  private static final int RUNS = 900;
-  private static final int MOST_CALLS = 420;
+  private static final int RUNS = 2500;
+  private static final int MOST_CALLS = 512;
+  /** What a look at the whole state asks at most. */
+  private static final int LOOK = 20 + 6 * 5 + 6 * 6;
+  /** Eight statements, a letter that spoils them, and land. */
+  private static final int LONGEST_STEP = 8 * 8 + 1 + 1;
   private static final String[][] CALLS = {
     {"letter", "0..255"}, {"land"}, {"farm", "farm", "0..4"}, {"farmer", "farmer", "0..5"},
     {"sits", "farmer", "farm"}, {"leaves", "farmer"}, {"hearts", "farm", "0..2", "0..30"}, {"steps", "0..5"},
@@ -35,7 +39,7 @@ public final class AgainstModelTest {
   }
 
   private void run() {
-    int length = 20 + lot.nextInt(MOST_CALLS - 20);
+    int length = LOOK + lot.nextInt(MOST_CALLS - LOOK - LONGEST_STEP - LOOK);
     tell(startingText());
     while (calls < length) {
       if (lot.nextInt(40) == 0) {
@@ -44,6 +48,9 @@ public final class AgainstModelTest {
         tellRow();
       } else {
         compare(CALLS[lot.nextInt(CALLS.length)]);
+      }
+      if (lot.nextInt(20) == 0 && calls + LOOK < length) {
+        compareStates();
       }
     }
     compareStates();
@@ -54,7 +61,6 @@ public final class AgainstModelTest {
       same("letter " + (int) text.charAt(i), x.letter(text.charAt(i)), m.letter(text.charAt(i)));
     }
     same("land of " + text, x.land(), m.land());
-    compareStates();
   }
 
   /** Fills the row with what is so, and sometimes with one number that is not. */
@@ -176,9 +182,6 @@ public final class AgainstModelTest {
       told.append(' ').append(a);
     }
     same(told.toString(), answer(x, call[0], all), answer(m, call[0], all));
-    if (calls % 8 == 0) {
-      compareStates();
-    }
   }
 
   private int argument(String range) {
@@ -218,20 +221,18 @@ public final class AgainstModelTest {
     Due.is(name + ", call " + calls + ", " + call, got, due);
   }
 
-  /** Asks beyond the runs' count of calls: a look is no part of the run. */
   private void compareStates() {
     for (int what = -1; what <= 18; what++) {
-      Due.is(name + " behind call " + calls + ", count " + what, x.count(what), m.count(what));
+      same("count " + what, x.count(what), m.count(what));
     }
     for (int farm = 0; farm < m.s.farms.size(); farm++) {
       for (int what = 0; what < 5; what++) {
-        Due.is(name + " behind call " + calls + ", farm " + farm + " " + what, x.farm(farm, what), m.farm(farm, what));
+        same("farm " + farm + " " + what, x.farm(farm, what), m.farm(farm, what));
       }
     }
     for (int farmer = 0; farmer < m.s.farmers.size(); farmer++) {
       for (int what = 0; what < 6; what++) {
-        Due.is(name + " behind call " + calls + ", farmer " + farmer + " " + what, x.farmer(farmer, what),
-            m.farmer(farmer, what));
+        same("farmer " + farmer + " " + what, x.farmer(farmer, what), m.farmer(farmer, what));
       }
     }
   }

@@ -107,10 +107,10 @@ public final class EdgesOfLandTest {
 
   @Edge(promise = 5, says = "3 where he is (-9), 4 what he GROWS now (0 AT none), 5 TIRES.")
   private static void p05_farmer_whereGrowsTires() {
-    RotationOfFarmers x = Due.landOf("f303030;f303030;pw0;pt0;pr0;pc0;pf0;pm0;a00;");
     int[] grows = {15, 15, 18, 7, 0, 0};
     int[] tires = {2, 1, 2, 1, 3, 4};
     for (int f = 0; f < 6; f++) {
+      RotationOfFarmers x = Due.landOf("f303030;f303030;pw0;pt0;pr0;pc0;pf0;pm0;a00;");
       int farmer = f;
       x.sits(f, 1);
       Edges.taken(x, "where " + f + " is", y -> y.farmer(farmer, 3), 1);

@@ -62,6 +62,8 @@ public final class EdgesOfOddsTest {
     frostIs(x, 1, 2, 109, 0, 1);
     frostIs(x, 7, 2, 649, 0, 1);
     frostIs(x, 7, 20, 999, 0, 1);
+    frostIs(Edges.full(), 1, 2, 17, 1, 2);
+    frostIs(Edges.full(), 1, 2, 18, 0, 1);
     frostIs(new RotationOfFarmers(), 7, 20, 0, 1, 1);
     frostIs(new RotationOfFarmers(), 7, 20, 1, 0, 1);
   }
@@ -139,6 +141,8 @@ public final class EdgesOfOddsTest {
     meanIs("", 0, 1);
     meanIs("pw0;", 0, 1);
     meanIs("f000000;", 0, 1);
+    meanIs("f000001;", 1, 1);
+    meanIs("f303029;", 89, 1);
     meanIs("f000000;f000000;f000000;f000000;f000000;f000000;", 0, 1);
     meanIs("f000000;f000000;f000000;f000000;f000000;f000001;", 1, 6);
     meanIs("f000000;f000000;f000000;f000000;f000000;f000002;", 1, 3);
@@ -146,6 +150,8 @@ public final class EdgesOfOddsTest {
     meanIs("f303030;f303030;f303030;f303030;f303030;f303030;", 90, 1);
     meanIs("f303030;f303030;f303030;f303030;f303030;f303029;", 539, 6);
     meanIs("f303030;f303029;", 179, 2);
+    Edges.taken(Edges.full(), "mean of six, above", y -> y.mean(0), 81);
+    Edges.taken(Edges.full(), "mean of six, below", y -> y.mean(1), 2);
   }
 
   @Edge(promise = 31, says = {
@@ -232,6 +238,19 @@ public final class EdgesOfOddsTest {
     whoSatIs(late, 63, 1023);
   }
 
+  @Edge(promise = 32, says = "WHO SAT by the ROW (it stays): KINDS (what 0, bits), FIGURES (1).")
+  private static void p32_whoSat_sixAndSix() {
+    RotationOfFarmers x = Edges.full();
+    Edges.taken(x, "by 0, 6, 12 ..", y -> y.whoSat(5, 5, 0), 0);
+    x.clear();
+    x.row(63);
+    x.row(63 + 8);
+    Edges.taken(x, "mr ames by 8 more", y -> y.whoSat(5, 5, 0), 32);
+    Edges.taken(x, "his figures", y -> y.whoSat(5, 5, 1), 8 + 16 + 32);
+    Edges.taken(x, "kinds of one who is elsewhere", y -> y.whoSat(5, 0, 0), 63);
+    Edges.taken(x, "figures of one who is elsewhere", y -> y.whoSat(5, 0, 1), 1023);
+  }
+
   @Edge(promise = 32, says = {"-1 either;", "-2."})
   private static void p32_whoSat_refused() {
     Edges.refused(Due.NOBODY, "farm -1", y -> y.whoSat(-1, 0, 0));
@@ -303,6 +322,12 @@ public final class EdgesOfOddsTest {
     Edges.taken(none, "nothing without farms", RotationOfFarmers::judge, Edges.NONE);
     none.row(1);
     Edges.taken(none, "something without farms", RotationOfFarmers::judge, 0);
+    RotationOfFarmers six = Edges.full();
+    six.clear();
+    six.row(17);
+    Edges.taken(six, "six and six", RotationOfFarmers::judge, Edges.NONE);
+    six.row(16);
+    Edges.taken(six, "one less", RotationOfFarmers::judge, 0);
   }
 
   @Edge(promise = 34, says = "what grows of all in YEARS 1, 2, ..")
@@ -392,6 +417,8 @@ public final class EdgesOfOddsTest {
     Edges.taken(new RotationOfFarmers(), "green of no farms", y -> y.lots(20, 7, 1), 0);
     Edges.taken(Due.landOf("pr0;"), "a farmer alone", y -> y.lots(20, 7, 1), 0);
     Edges.taken(Due.landOf("f000000;"), "a farm alone", y -> y.lots(20, 7, 0), 0);
+    RotationOfFarmers six = Due.landOf("f000000;".repeat(6));
+    Edges.taken(six, "six farms alone, by 18 draws", y -> y.lots(1, 0, 1), 448);
   }
 
   @Edge(promise = 36, says = "what grows of all together; GREEN of all in the end.")

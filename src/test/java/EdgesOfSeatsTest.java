@@ -58,6 +58,20 @@ public final class EdgesOfSeatsTest {
     nextIs("both", x, 0, 0, 1);
   }
 
+  @Edge(promise = 22, says = "NEXT: FARMERS set on FARMS anew so that most grows of all next YEAR")
+  private static void p22_next_asManyAsThereAre() {
+    RotationOfFarmers x = new RotationOfFarmers();
+    x.image();
+    Due.is("six and six", Due.tell(x, "f303030;f303030;f303030;f303030;f303030;f303030;pr0;pr0;pr0;pr0;pr0;pr0;"), 12);
+    nextIs("six", x, 6 * 18, 0, 1, 2, 3, 4, 5);
+    x.on();
+    nextIs("none again", x, 0);
+    Due.is("one and one", Due.tell(x, "f200000;pw0;"), 2);
+    nextIs("one", x, 10, 0);
+    Due.is("and a farm more", Due.tell(x, "f300000;"), 1);
+    nextIs("one on two", x, 15, 1);
+  }
+
   @Edge(promise = 22, says = "-1.")
   private static void p22_next_refused() {
     Edges.refused(Due.NOBODY, "-2", y -> y.next(-2));
@@ -99,6 +113,16 @@ public final class EdgesOfSeatsTest {
     }
   }
 
+  @Edge(promise = 23, says = "FEED: the KIND (what 0), that GREEN (1).")
+  private static void p23_feed_sixFarms() {
+    RotationOfFarmers x = Edges.full();
+    for (int f = 0; f < 6; f++) {
+      int farm = f;
+      Edges.taken(x, "kind for " + f, y -> y.feed(farm, 0), 5);
+      Edges.taken(x, "green of " + f, y -> y.feed(farm, 1), 18 + 9 * f + 6 + 4 + 4);
+    }
+  }
+
   @Edge(promise = 23, says = {"-1;", "-2."})
   private static void p23_feed_refused() {
     Edges.refused(Due.NOBODY, "farm -1", y -> y.feed(-1, 0));
@@ -118,7 +142,14 @@ public final class EdgesOfSeatsTest {
     Edges.taken(new RotationOfFarmers(), "nothing at all", RotationOfFarmers::settles, 0);
     Edges.taken(Due.landOf("f303030;"), "a full farm", RotationOfFarmers::settles, 0);
     Edges.taken(Due.landOf("f303030;f303029;"), "full but for one", RotationOfFarmers::settles, 1);
+    Edges.taken(Due.landOf("f293030;f303030;"), "full but for the first", RotationOfFarmers::settles, 1);
     Edges.taken(Due.landOf("f000000;"), "an empty farm", RotationOfFarmers::settles, 30);
+    RotationOfFarmers six = Due.landOf("f303030;f303030;f303030;f303030;f303030;f303030;pw0;pt0;pr0;pc0;pf0;pm0;");
+    Edges.taken(six, "six full farms, six at none", RotationOfFarmers::settles, 0);
+    six.tires(5, 1);
+    Edges.taken(six, "the last one rests", RotationOfFarmers::settles, 1);
+    six.hearts(5, 2, 28);
+    Edges.taken(six, "the last heart grows", RotationOfFarmers::settles, 2);
     Edges.taken(Due.landOf("f303030;pw0;a00;"), "who works", RotationOfFarmers::settles, Edges.NONE);
     Edges.taken(Due.landOf("f303030;pf9;a00;"), "who feeds", RotationOfFarmers::settles, Edges.NONE);
     int[] tired = {0, 1, 5, 6, 10, 11, 15, 16, 20};
@@ -168,10 +199,15 @@ public final class EdgesOfSeatsTest {
       x.leaves(f);
       x.tires(f, 10);
       int bits = (2 << f) - 1;
-      Edges.taken(x, "free up to " + f, y -> y.free(0), bits);
-      Edges.taken(x, "idle up to " + f, y -> y.free(1), bits);
-      Edges.taken(x, "worn up to " + f, y -> y.free(2), bits);
+      Due.is("free up to " + f, x.free(0), bits);
+      Due.is("idle up to " + f, x.free(1), bits);
+      Due.is("worn up to " + f, x.free(2), bits);
     }
+    x.tires(0, 0);
+    x.sits(5, 3);
+    Edges.taken(x, "all farms but 3", y -> y.free(0), 63 - 8);
+    Edges.taken(x, "all farmers but 5", y -> y.free(1), 63 - 32);
+    Edges.taken(x, "all farmers but 0", y -> y.free(2), 63 - 1);
     for (int what = 0; what < 3; what++) {
       int w = what;
       Edges.taken(new RotationOfFarmers(), "nothing at all, what " + what, y -> y.free(w), 0);
@@ -241,6 +277,8 @@ public final class EdgesOfSeatsTest {
     Edges.taken(x, "both rest, in 30", y -> y.two(1, 3, 30), 11);
     Edges.taken(x, "who is at none has alike: the first", y -> y.two(0, 2, 1), 0);
     Due.is("they are where they were", x.free(1), 1);
+    Edges.taken(Edges.full(), "the last two of six, in 1", y -> y.two(5, 4, 1), 11);
+    Edges.taken(Edges.full(), "the first and the last of six, in 1", y -> y.two(0, 5, 1), 1);
   }
 
   @Edge(promise = 29, says =
@@ -256,6 +294,27 @@ public final class EdgesOfSeatsTest {
     Edges.taken(x, "1 corn less 7 is less than 0", y -> y.two(0, 1, 1), 10);
     Edges.taken(Due.landOf("pw0;pw0;"), "both at none", y -> y.two(1, 0, 30), 0);
     Edges.taken(Due.landOf("f000102;f030303;pc3;pw3;a00;a11;s1;"), "no such pair", y -> y.two(0, 1, 19), Edges.NONE);
+  }
+
+  @Edge(promise = 29, says =
+      "each wants most of what he GROWS in the next n YEARS (1 .. 30), less what he is TIRED then:")
+  private static void p29_two_lessWhatHeIsTiredThen() {
+    RotationOfFarmers x = Due.landOf("f202020;f202020;pw0;pf0;a00;a11;s0;");
+    x.tires(0, 9);
+    Edges.taken(x, "10 corn less 11 is more than none less 4", y -> y.two(0, 1, 1), 1);
+    Edges.taken(x, "told the other way", y -> y.two(1, 0, 1), 10);
+    x.hearts(0, 0, 14);
+    Edges.taken(x, "7 corn less 11 is as none less 4", y -> y.two(0, 1, 1), 1);
+    x.hearts(0, 0, 13);
+    Edges.taken(x, "6 corn less 11 is less than none less 4", y -> y.two(0, 1, 1), 11);
+    x.tires(1, 10);
+    Edges.taken(x, "who is worn rests either way", y -> y.two(0, 1, 1), 10);
+    x.turn(1, 0, 0);
+    x.tires(1, 9);
+    x.hearts(1, 0, 30);
+    Edges.taken(x, "the other stays", y -> y.two(0, 1, 1), 10);
+    Edges.taken(x, "told the other way", y -> y.two(1, 0, 1), 1);
+    Due.is("tired as he was", x.farmer(0, 2), 9);
   }
 
   @Edge(promise = 29, says = {"-1 either (one twice, too);", "-4 below 1;", "-6 30."})

@@ -22,6 +22,10 @@ public final class EdgesOfTellingTest {
     }
   }
 
+  private static void faultBehind(String ahead, String text, int due) {
+    faultIn(Due.landOf(ahead), text, due);
+  }
+
   private static RotationOfFarmers comes(String text, int statements) {
     RotationOfFarmers x = new RotationOfFarmers();
     Due.is("land of \"" + text + "\"", Due.tell(x, text), statements);
@@ -119,8 +123,9 @@ public final class EdgesOfTellingTest {
   private static void p02_letter_96thIsTheLast() {
     RotationOfFarmers x = new RotationOfFarmers();
     for (int i = 1; i <= 96; i++) {
-      Edges.taken(x, "letter " + i, y -> y.letter(255), i);
+      Due.is("letter " + i, x.letter(255), i);
     }
+    Due.is("refusals so far", x.count(16), 0);
     Due.is("letters", x.count(7), 96);
     Due.is("the 97th", x.letter(0), Due.ROOM);
     Due.is("letters", x.count(7), 96);
@@ -140,8 +145,9 @@ public final class EdgesOfTellingTest {
     RotationOfFarmers x = Edges.full();
     Due.is("land of 96", x.land(), 32);
     for (int i = 1; i <= 96; i++) {
-      Edges.taken(x, "letter " + i, y -> y.letter(';'), i);
+      Due.is("letter " + i, x.letter(';'), i);
     }
+    Due.is("refusals so far", x.count(16), 0);
     Due.is("the 97th", x.letter(';'), Due.ROOM);
     Due.is("a fault of 96", x.land(), -1000);
     Edges.taken(x, "letter behind the fault", y -> y.letter(';'), 1);
@@ -286,6 +292,16 @@ public final class EdgesOfTellingTest {
     Due.is("the first is tired", x.farmer(0, 2), 2);
     Due.is("a fresh one is not", x.farmer(1, 2), 0);
     Due.is("he is at none", x.farmer(1, 3), Edges.NONE);
+    RotationOfFarmers again = new RotationOfFarmers();
+    again.image();
+    Due.is("one who works", Due.tell(again, "f000000;pm9;a00;y02;"), 4);
+    Due.is("he is tired", again.farmer(0, 2), 8);
+    again.on();
+    Due.is("another in his stead", Due.tell(again, "pw0;f000000;"), 2);
+    Due.is("he is not tired", again.farmer(0, 2), 0);
+    Due.is("he is a whig", again.farmer(0, 5), 2);
+    Due.is("he is at none", again.farmer(0, 3), Edges.NONE);
+    Due.is("nobody is there", again.farm(0, 4), Edges.NONE);
   }
 
   @Edge(promise = 3, says = {"FARMERS 0 .. as they come (6 at most): KIND, FIGURE (0 .. 9)", "no room for more"})
@@ -308,10 +324,10 @@ public final class EdgesOfTellingTest {
     Due.is("the first at the first", x.farmer(0, 3), 0);
     Due.is("the last at the last", x.farmer(5, 3), 5);
     Due.is("others at none", x.free(1), 2 + 4 + 8 + 16);
-    faultIn(x, "a60;", -2000);
-    faultIn(x, "a06;", -2000);
-    faultIn(x, "a99;", -2000);
-    faultIn(x, "a01;a60;", -2004);
+    faultBehind(SIX_FARMS + SIX_FARMERS, "a60;", -2000);
+    faultBehind(SIX_FARMS + SIX_FARMERS, "a06;", -2000);
+    faultBehind(SIX_FARMS + SIX_FARMERS, "a99;", -2000);
+    faultBehind(SIX_FARMS + SIX_FARMERS, "a01;a60;", -2004);
   }
 
   @Edge(promise = 3, says = {"\"a\" a FARMER, a FARM (a digit each)", "no such FARM, FARMER so far"})
@@ -341,8 +357,8 @@ public final class EdgesOfTellingTest {
     Due.is("the last has left", x.farmer(5, 3), Edges.NONE);
     Due.is("the farm is free", x.farm(0, 4), Edges.NONE);
     Due.is("leaves though at none", Due.tell(x, "o5;o0;"), 2);
-    faultIn(x, "o6;", -2000);
-    faultIn(x, "o9;", -2000);
+    faultBehind("f000000;" + SIX_FARMERS, "o6;", -2000);
+    faultBehind("f000000;" + SIX_FARMERS, "o9;", -2000);
     fault("o0;", -2000);
     fault("o00;", -1002);
   }
@@ -352,11 +368,11 @@ public final class EdgesOfTellingTest {
     RotationOfFarmers x = comes(SIX_FARMS + "h0030;h5230;h5130;h5100;", 10);
     Edges.heartsAre("the first", x, 0, 30, 0, 0);
     Edges.heartsAre("the last", x, 5, 0, 0, 30);
-    faultIn(x, "h6000;", -2000);
-    faultIn(x, "h0300;", -2000);
-    faultIn(x, "h0900;", -2000);
-    faultIn(x, "h0031;", -2000);
-    faultIn(x, "h5299;", -2000);
+    faultBehind(SIX_FARMS, "h6000;", -2000);
+    faultBehind(SIX_FARMS, "h0300;", -2000);
+    faultBehind(SIX_FARMS, "h0900;", -2000);
+    faultBehind(SIX_FARMS, "h0031;", -2000);
+    faultBehind(SIX_FARMS, "h5299;", -2000);
     fault("h0000;", -2000);
     fault("h000;", -1004);
     fault("h00000;", -1005);

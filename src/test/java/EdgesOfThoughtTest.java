@@ -10,13 +10,22 @@ public final class EdgesOfThoughtTest {
   private static void p13_heartThen_0And60() {
     RotationOfFarmers x = Due.landOf("f000000;f102030;");
     for (int n = 0; n <= 60; n++) {
-      int years = n;
-      Edges.taken(x, "from 0 in " + n, y -> y.heartThen(0, 0, years), Math.min(30, n));
+      Due.is("from 0 in " + n, x.heartThen(0, 0, n), Math.min(30, n));
     }
+    Edges.taken(x, "from 0 in 60", y -> y.heartThen(0, 0, 60), 30);
     Edges.taken(x, "the last farm and sort in 0", y -> y.heartThen(1, 2, 0), 30);
     Edges.taken(x, "the last farm in 60", y -> y.heartThen(1, 0, 60), 30);
     Due.is("it is as it was", x.farm(0, 0), 0);
     Due.is("year", x.count(2), 0);
+  }
+
+  @Edge(promise = 13, says = "A HEART.")
+  private static void p13_heartThen_sixFarms() {
+    RotationOfFarmers x = Edges.full();
+    Edges.taken(x, "the first heart of the first", y -> y.heartThen(0, 0, 1), 5 - 3);
+    Edges.taken(x, "the first heart of the last", y -> y.heartThen(5, 0, 1), 20 + 2 + 2);
+    Edges.taken(x, "the last heart of the last", y -> y.heartThen(5, 2, 1), 22 + 2);
+    Edges.taken(x, "then the first of all works there", y -> y.heartThen(5, 2, 2), 24 + 2);
   }
 
   @Edge(promise = 13, says = {"-1 either;", "-4;", "-6 60."})
@@ -71,6 +80,15 @@ public final class EdgesOfThoughtTest {
     Due.is("tired as he was", x.farmer(0, 2), 9);
   }
 
+  @Edge(promise = 14, says = "TIRED (what 0), where he is (1; -9).")
+  private static void p14_farmerThen_sixFarmers() {
+    RotationOfFarmers x = Edges.full();
+    Edges.taken(x, "the last is tired", y -> y.farmerThen(5, 1, 0), 4);
+    Edges.taken(x, "behind the last farm comes the first", y -> y.farmerThen(5, 1, 1), 0);
+    Edges.taken(x, "the first moves on", y -> y.farmerThen(0, 5, 1), 5);
+    Edges.taken(x, "ten rounds", y -> y.farmerThen(5, 60, 1), 5);
+  }
+
   @Edge(promise = 14, says = {"-1;", "-4;", "-6 60;", "-2."})
   private static void p14_farmerThen_refused() {
     Edges.refused(Due.NOBODY, "farmer -1", y -> y.farmerThen(-1, 0, 0));
@@ -101,6 +119,7 @@ public final class EdgesOfThoughtTest {
     Edges.taken(x, "in 60", y -> y.barnThen(60), 18 * 45);
     Due.is("it is as it was", x.count(4), 18);
     Edges.taken(new RotationOfFarmers(), "without farms, in 60", y -> y.barnThen(60), 0);
+    Edges.taken(Edges.full(), "six and six, in 1", y -> y.barnThen(1), 2 + 4 + 8 + 3);
   }
 
   @Edge(promise = 15, says = {"The BARN.", "BARN (corn, 0 .. 9999; 0 at first)."})
@@ -210,6 +229,18 @@ public final class EdgesOfThoughtTest {
     Edges.taken(x, "the barn in 60", y -> y.barnThen(60), 9999);
   }
 
+  @Edge(promise = 18, says = "CROP of a FARM (-1: of all).")
+  private static void p18_crop_sixFarms() {
+    RotationOfFarmers x = Edges.full();
+    int[] due = {2, 4, 5 + 3, 3, 0, 0};
+    for (int f = 0; f < 6; f++) {
+      int farm = f;
+      Edges.taken(x, "of farm " + f, y -> y.crop(farm, 1), due[f]);
+    }
+    Edges.taken(x, "of all", y -> y.crop(-1, 1), 17);
+    Edges.taken(x, "of the last in 3: half of half of 21 and 2 and 2", y -> y.crop(5, 3), 6);
+  }
+
   @Edge(promise = 18, says = {"-1;", "-4 below 1;", "-6 60."})
   private static void p18_crop_refused() {
     Edges.refused(Due.NOBODY, "farm -2", y -> y.crop(-2, 1));
@@ -254,6 +285,8 @@ public final class EdgesOfThoughtTest {
     Edges.taken(stays, "how much in 30", y -> y.bestStep(30, 1), 18 * 23);
     Edges.taken(new RotationOfFarmers(), "without farms", y -> y.bestStep(30, 0), 0);
     Edges.taken(new RotationOfFarmers(), "how much without farms", y -> y.bestStep(1, 1), 0);
+    Edges.taken(Edges.full(), "six and six, in 1", y -> y.bestStep(1, 0), 0);
+    Edges.taken(Edges.full(), "how much of six and six", y -> y.bestStep(1, 1), 17);
   }
 
   @Edge(promise = 19, says = "most grows of all")

@@ -210,16 +210,19 @@ public final class LandPromisesTest {
 
   /** Promise 5. */
   private static void farmer() {
-    RotationOfFarmers x = Due.landOf(SIX_KINDS);
+    RotationOfFarmers fresh = Due.landOf(SIX_KINDS);
     int[] grows = {10, 9, 13, 4, 0, 0};
     int[] tires = {2, 1, 2, 1, 3, 4};
     for (int f = 0; f < 6; f++) {
-      Due.is("kind", x.farmer(f, 0), f);
-      Due.is("figure", x.farmer(f, 1), f + 1);
-      Due.is("tired", x.farmer(f, 2), 0);
-      Due.is("at none", x.farmer(f, 3), Model.NONE);
-      Due.is("grows at none", x.farmer(f, 4), 0);
-      Due.is("tires", x.farmer(f, 5), tires[f]);
+      Due.is("kind", fresh.farmer(f, 0), f);
+      Due.is("figure", fresh.farmer(f, 1), f + 1);
+      Due.is("tired", fresh.farmer(f, 2), 0);
+      Due.is("at none", fresh.farmer(f, 3), Model.NONE);
+      Due.is("grows at none", fresh.farmer(f, 4), 0);
+      Due.is("tires", fresh.farmer(f, 5), tires[f]);
+    }
+    RotationOfFarmers x = Due.landOf(SIX_KINDS);
+    for (int f = 0; f < 6; f++) {
       x.sits(f, 0);
       Due.is("at the farm", x.farmer(f, 3), 0);
       x.tires(f, 9);
@@ -229,8 +232,8 @@ public final class LandPromisesTest {
       Due.is("grows when tired 10", x.farmer(f, 4), 0);
       Due.is("tires, of his kind", x.farmer(f, 5), tires[f]);
     }
-    Due.refused(x, Due.NOBODY, "farmer 6", () -> x.farmer(6, 0));
-    Due.refused(x, Due.NOBODY, "farmer -1", () -> x.farmer(-1, 0));
+    Due.refused(fresh, Due.NOBODY, "farmer 6", () -> fresh.farmer(6, 0));
+    Due.refused(fresh, Due.NOBODY, "farmer -1", () -> fresh.farmer(-1, 0));
     Due.refused(x, Due.OTHER, "farmer what 6", () -> x.farmer(5, 6));
     Due.refused(x, Due.OTHER, "farmer what -1", () -> x.farmer(0, -1));
     Due.refused(x, Due.NOBODY, "farmer both", () -> x.farmer(6, 6));

@@ -64,12 +64,13 @@ public final class OddsPromisesTest {
     Due.refusedLong(x, Due.ROOM, "frost in 8", () -> x.frost(8, 2, 0, 0));
     Due.refusedLong(x, Due.ROOM, "frost 1 in 21", () -> x.frost(7, 21, 0, 0));
     Due.refusedLong(x, Due.ROOM, "frost of 1000", () -> x.frost(7, 20, 1000, 0));
-    Due.refusedLong(x, Due.BELOW, "frost in 8, 1 in 1", () -> x.frost(8, 1, 0, 0));
-    Due.refusedLong(x, Due.BELOW, "frost in 8 of -1", () -> x.frost(8, 2, -1, 2));
-    Due.refusedLong(x, Due.ROOM, "frost 1 in most and other", () -> x.frost(0, MOST, 0, 2));
-    Due.refusedLong(x, Due.OTHER, "frost, part 2", () -> x.frost(7, 20, 999, 2));
-    Due.refusedLong(x, Due.OTHER, "frost, part -1", () -> x.frost(0, 2, 0, -1));
-    Due.is("a refusal of longs", x.frost(0, 2, 0, -1), 4000000000000000002L);
+    RotationOfFarmers y = rootsWhoStay();
+    Due.refusedLong(y, Due.BELOW, "frost in 8, 1 in 1", () -> y.frost(8, 1, 0, 0));
+    Due.refusedLong(y, Due.BELOW, "frost in 8 of -1", () -> y.frost(8, 2, -1, 2));
+    Due.refusedLong(y, Due.ROOM, "frost 1 in most and other", () -> y.frost(0, MOST, 0, 2));
+    Due.refusedLong(y, Due.OTHER, "frost, part 2", () -> y.frost(7, 20, 999, 2));
+    Due.refusedLong(y, Due.OTHER, "frost, part -1", () -> y.frost(0, 2, 0, -1));
+    Due.is("a refusal of longs", y.frost(0, 2, 0, -1), 4000000000000000002L);
   }
 
   /** Promise 31. */

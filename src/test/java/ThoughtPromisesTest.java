@@ -72,10 +72,11 @@ public final class ThoughtPromisesTest {
     Due.refused(x, Due.NOBODY, "farmerThen, farmer -1 and all", () -> x.farmerThen(-1, -1, 2));
     Due.refused(x, Due.BELOW, "farmerThen -1", () -> x.farmerThen(0, -1, 0));
     Due.refused(x, Due.BELOW, "farmerThen -1 and other", () -> x.farmerThen(0, -1, 2));
-    Due.refused(x, Due.ROOM, "farmerThen 61", () -> x.farmerThen(0, 61, 0));
-    Due.refused(x, Due.ROOM, "farmerThen 61 and other", () -> x.farmerThen(0, 61, 2));
-    Due.refused(x, Due.OTHER, "farmerThen what 2", () -> x.farmerThen(0, 0, 2));
-    Due.refused(x, Due.OTHER, "farmerThen what -1", () -> x.farmerThen(0, 0, -1));
+    RotationOfFarmers y = Due.landOf("f303030;pw3;");
+    Due.refused(y, Due.ROOM, "farmerThen 61", () -> y.farmerThen(0, 61, 0));
+    Due.refused(y, Due.ROOM, "farmerThen 61 and other", () -> y.farmerThen(0, 61, 2));
+    Due.refused(y, Due.OTHER, "farmerThen what 2", () -> y.farmerThen(0, 0, 2));
+    Due.refused(y, Due.OTHER, "farmerThen what -1", () -> y.farmerThen(0, 0, -1));
   }
 
   /** Promise 15. */
@@ -341,8 +342,8 @@ public final class ThoughtPromisesTest {
     }
     Due.refused(x, Due.OTHER, "free 3", () -> x.free(3));
     Due.refused(x, Due.OTHER, "free -1", () -> x.free(-1));
-    Due.refused(x, Due.OTHER, "free most", () -> x.free(MOST));
-    Due.refused(x, Due.OTHER, "free least", () -> x.free(LEAST));
+    Due.refused(none, Due.OTHER, "free most", () -> none.free(MOST));
+    Due.refused(none, Due.OTHER, "free least", () -> none.free(LEAST));
   }
 
   /** Promise 27. */
