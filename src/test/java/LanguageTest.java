@@ -1,6 +1,14 @@
+import com.sun.source.tree.ArrayAccessTree;
 import com.sun.source.tree.AssertTree;
+import com.sun.source.tree.AssignmentTree;
+import com.sun.source.tree.BinaryTree;
 import com.sun.source.tree.CompilationUnitTree;
+import com.sun.source.tree.CompoundAssignmentTree;
+import com.sun.source.tree.DoWhileLoopTree;
+import com.sun.source.tree.ExpressionTree;
+import com.sun.source.tree.ForLoopTree;
 import com.sun.source.tree.ImportTree;
+import com.sun.source.tree.InstanceOfTree;
 import com.sun.source.tree.LambdaExpressionTree;
 import com.sun.source.tree.LiteralTree;
 import com.sun.source.tree.MemberReferenceTree;
@@ -12,6 +20,9 @@ import com.sun.source.tree.SynchronizedTree;
 import com.sun.source.tree.ThrowTree;
 import com.sun.source.tree.Tree;
 import com.sun.source.tree.TryTree;
+import com.sun.source.tree.TypeCastTree;
+import com.sun.source.tree.UnaryTree;
+import com.sun.source.tree.VariableTree;
 import com.sun.source.tree.WhileLoopTree;
 import com.sun.source.util.JavacTask;
 import com.sun.source.util.TreePath;
@@ -31,6 +42,7 @@ import java.util.Set;
 import java.util.TreeSet;
 import javax.lang.model.element.Element;
 import javax.lang.model.element.ElementKind;
+import javax.lang.model.type.TypeMirror;
 import javax.tools.JavaCompiler;
 import javax.tools.StandardJavaFileManager;
 import javax.tools.ToolProvider;
@@ -56,6 +68,9 @@ public final class LanguageTest {
   private static final Set<String> LIBRARY = Set.of(
       "String.length", "String.charAt", "String.isEmpty", "String.equals", "String.indexOf", "Math.max", "Math.min",
       "System.arraycopy");
+
+  private static final Set<String> TYPES = Set.of("boolean", "char", "int", "long", "void", "int[]", "long[]",
+      "java.lang.String");
 
   public static void main(String[] args) throws Exception {
     face();
@@ -187,6 +202,9 @@ public final class LanguageTest {
       long first = line(trees.getSourcePositions().getStartPosition(unit, tree));
       long last = line(trees.getSourcePositions().getEndPosition(unit, tree));
       Due.isTrue(within + " has " + (last - first + 1) + " lines", last - first < MOST_LINES);
+      if (tree.getReturnType() != null) {
+        isKnown(tree, typeOf(tree.getReturnType()));
+      }
       Due.isTrue("parameters of " + within, tree.getParameters().size() <= MOST_PARAMETERS);
       super.visitMethod(tree, none);
       within = outer;
@@ -286,6 +304,93 @@ public final class LanguageTest {
     @Override
     public Void visitMemberReference(MemberReferenceTree tree, Void none) {
       no(tree, "a method reference");
+      return null;
+    }
+
+    private TypeMirror typeOf(Tree tree) {
+      return trees.getTypeMirror(new TreePath(getCurrentPath(), tree));
+    }
+
+    private void isKnown(Tree tree, TypeMirror type) {
+      boolean own = type.toString().startsWith("RotationOfFarmers");
+      if (!own && !TYPES.contains(type.toString())) {
+        no(tree, "the type " + type);
+      }
+    }
+
+    private boolean isText(Tree tree) {
+      return typeOf(tree).toString().equals("java.lang.String");
+    }
+
+    /** Arrays written out as constants are never changed. */
+    private void isNotConstant(ExpressionTree changed) {
+      if (changed instanceof ArrayAccessTree) {
+        ExpressionTree array = ((ArrayAccessTree) changed).getExpression();
+        Element named = trees.getElement(new TreePath(new TreePath(getCurrentPath(), changed), array));
+        if (named.getModifiers().contains(javax.lang.model.element.Modifier.STATIC)) {
+          no(changed, "a constant array changed");
+        }
+      }
+    }
+
+    @Override
+    public Void visitVariable(VariableTree tree, Void none) {
+      isKnown(tree, typeOf(tree.getType()));
+      return super.visitVariable(tree, none);
+    }
+
+    @Override
+    public Void visitTypeCast(TypeCastTree tree, Void none) {
+      Due.isTrue("a cast to " + tree.getType() + " is among numbers", typeOf(tree.getType()).getKind().isPrimitive());
+      return super.visitTypeCast(tree, none);
+    }
+
+    @Override
+    public Void visitInstanceOf(InstanceOfTree tree, Void none) {
+      no(tree, "instanceof, where there are no kinds of objects");
+      return null;
+    }
+
+    @Override
+    public Void visitBinary(BinaryTree tree, Void none) {
+      if (isText(tree.getLeftOperand()) || isText(tree.getRightOperand())) {
+        no(tree, "texts joined by + or compared by ==");
+      }
+      return super.visitBinary(tree, none);
+    }
+
+    @Override
+    public Void visitCompoundAssignment(CompoundAssignmentTree tree, Void none) {
+      isNotConstant(tree.getVariable());
+      if (isText(tree.getVariable())) {
+        no(tree, "texts joined by +=");
+      }
+      return super.visitCompoundAssignment(tree, none);
+    }
+
+    @Override
+    public Void visitAssignment(AssignmentTree tree, Void none) {
+      isNotConstant(tree.getVariable());
+      return super.visitAssignment(tree, none);
+    }
+
+    @Override
+    public Void visitUnary(UnaryTree tree, Void none) {
+      isNotConstant(tree.getExpression());
+      return super.visitUnary(tree, none);
+    }
+
+    @Override
+    public Void visitForLoop(ForLoopTree tree, Void none) {
+      if (tree.getCondition() == null) {
+        no(tree, "a loop without an end");
+      }
+      return super.visitForLoop(tree, none);
+    }
+
+    @Override
+    public Void visitDoWhileLoop(DoWhileLoopTree tree, Void none) {
+      no(tree, "do: a bound is easier seen in a for");
       return null;
     }
 
